@@ -198,6 +198,13 @@ public final class PromisesTest {
         x.look();
         due("house(1, 4)", x.house(1, 4), 6);
         due("house(0, 4)", x.house(0, 4), 4);
+        KeyholeNews y = on("N5H0555H0555");
+        y.pause();
+        y.pause();
+        y.walk(1);
+        y.look();
+        due("house(0, 4), the next one's is not its own", y.house(0, 4), 0);
+        due("house(1, 4)", y.house(1, 4), 1);
         due("house(0, 5)", x.house(0, 5), -2);
         due("house(0, -1)", x.house(0, -1), -2);
         due("house(2, 0)", x.house(2, 0), -1);
@@ -427,6 +434,7 @@ public final class PromisesTest {
         due("keys(2, 5)", y.keys(2, 5), 1);
         KeyholeNews z = on("N1H0040H0004");
         due("keys(3, 3), both", z.keys(3, 3), 3);
+        due("keys(3, 5), the least of like ones", on("N9H0500H0005").keys(3, 5), 1);
         due("keys(0, 0)", x.keys(0, 0), -2);
         due("keys(4, 0)", x.keys(4, 0), -2);
         due("keys(1, -1)", x.keys(1, -1), -2);
@@ -484,6 +492,14 @@ public final class PromisesTest {
         y.key(0);
         due("share(0, true), a key in", y.share(0, true), 0);
         due("share(1, true), the other's key in", y.share(1, true), 5);
+        // one farthing for 6, 4 or 3: all three share in 3, two in 1 more, the first alone has 2 more
+        KeyholeNews z = on("N1H0600H0040H0003");
+        int[][] want = {{7, 2}, {3, 2}, {1, 1}};
+        for (int house = 0; house < 3; house++) {
+            due("share(" + house + ", true), of three", z.share(house, true), want[house][0]);
+            due("share(" + house + ", false), of three", z.share(house, false), want[house][1]);
+        }
+        due("share(3, true), four turns off", on("N9H0000H0000H0000H0800").share(3, true), 0);
         due("share(2, true)", y.share(2, true), -1);
         due("share(-1, true)", y.share(-1, true), -1);
         due("share(0, true), no houses", new KeyholeNews().share(0, true), -1);
@@ -622,6 +638,8 @@ public final class PromisesTest {
         due("chance, read when fogged", x.chance(4, 2332, 1, 4, true), 3);
         due("chance, read when fogged", x.chance(4, 2332, 1, 4, false), 5);
         chanceIs(x, 6, 333333, 1, 4, 0, 1);
+        chanceIs(x, 6, 333333, 0, 4, 1, 1);
+        chanceIs(x, 3, 222, 99, 0, 0, 1);
         due("chance(0, 0, 0, 0, true)", x.chance(0, 0, 0, 0, true), -2);
         due("chance(7, 0, 0, 0, true)", x.chance(7, 0, 0, 0, true), -2);
         due("chance(2, 333, 0, 0, true)", x.chance(2, 333, 0, 0, true), -2);
