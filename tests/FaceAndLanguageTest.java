@@ -91,6 +91,8 @@ public final class FaceAndLanguageTest {
             check(one.getDeclaredClasses().length == 0, one + " has classes inside");
             for (Method method : one.getDeclaredMethods()) {
                 check(method.getParameterCount() <= 7, method + " takes too much");
+                check(Arrays.stream(METHODS).noneMatch(told -> told.contains(" " + method.getName() + "(")),
+                        method + " bears the name of a public one");
             }
         }
     }

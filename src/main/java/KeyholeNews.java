@@ -5,7 +5,8 @@ public final class KeyholeNews {
     private static final int ROW_MOST = 6, KEYS_ROW_MOST = 3, JUDGED_MOST = 8, SHARE_ROW = 3, ROUNDS_MOST = 30;
     private static final int JOY_MOST = 99, HOUR_MOST = 99, NEWS_MOST = 9, FARTHINGS_MOST = 9, TENTHS = 10;
     private static final int SEEN_HOUR_MOST = 9, SHOWN_MOST = 10, BYTE_MOST = 255;
-    private static final int NEWS_ROUND = 3;
+    // news goes round by three hours and a low hole by two, so what a hole shows goes round by six
+    private static final int NEWS_ROUND = 3, SIGHT_ROUND = 6;
     private static final int ROUND = 0, SLIT = 1, STAR = 2, LOW = 3;
     private static final int BEFORE = 0, BEHIND = 1, LOOKED = 2, WAITED = 3;
     private static final int HEAD_BYTES = 2, HOUSE_BYTES = 5;
@@ -163,7 +164,7 @@ public final class KeyholeNews {
         if (n < 1 || n > ROW_MOST) {
             return BAD;
         }
-        return row ? search.bestRow(street, now, n) : bestOf(now, n);
+        return row ? search.bestRow(street, now, n) : search.most(street, now, n);
     }
 
     public int fewest(int j) {
@@ -171,7 +172,7 @@ public final class KeyholeNews {
             return BAD;
         }
         for (int n = 1; n <= ROW_MOST; n++) {
-            if (bestOf(now, n) >= j) {
+            if (search.most(street, now, n) >= j) {
                 return n;
             }
         }
@@ -227,20 +228,16 @@ public final class KeyholeNews {
         return partOf(sum, factorial(street.count), upper);
     }
 
-    private int bestOf(Stand from, int n) {
-        return search.most(street, from, n) - from.joy;
-    }
-
     private int bestWithKeys(int n, int set) {
         trial.copy(now);
         trial.keys |= set;
-        return bestOf(trial, n);
+        return search.most(street, trial, n);
     }
 
     private int bestAmong(int come) {
         trial.copy(now);
         trial.lamps &= come;
-        return bestOf(trial, SHARE_ROW);
+        return search.most(street, trial, SHARE_ROW);
     }
 
     // ---- shapes
@@ -530,6 +527,7 @@ public final class KeyholeNews {
     private static final class Street {
         final int[] shapes = new int[HOUSES_MOST];
         final int[] news = new int[HOUSES_MOST * NEWS_ROUND];
+        final int[] sights = new int[HOUSES_MOST * SIGHT_ROUND];
         int count = 0;
         int farthings = 0;
 
@@ -541,6 +539,9 @@ public final class KeyholeNews {
                 shapes[house] = text.digitAt(start + 1);
                 for (int i = 0; i < NEWS_ROUND; i++) {
                     news[house * NEWS_ROUND + i] = text.digitAt(start + 2 + i);
+                }
+                for (int hour = 0; hour < SIGHT_ROUND; hour++) {
+                    sights[house * SIGHT_ROUND + hour] = through(shapes[house], newsOf(house, hour), hour);
                 }
             }
         }
@@ -555,10 +556,6 @@ public final class KeyholeNews {
 
         int newsOf(int house, int hour) {
             return has(house) ? news[house * NEWS_ROUND + Math.floorMod(hour, NEWS_ROUND)] : 0;
-        }
-
-        int lit(int house, int hour) {
-            return through(shapeOf(house), newsOf(house, hour), hour);
         }
 
         static int through(int shape, int going, int hour) {
@@ -607,7 +604,8 @@ public final class KeyholeNews {
 
         int shown(Street street, int house, int inHour) {
             boolean open = ((lamps & ~keys) >> house & 1) != 0;
-            return open ? street.lit(house, inHour) : 0;
+            int place = house * SIGHT_ROUND + inHour % SIGHT_ROUND;
+            return open && place >= 0 && place < street.sights.length ? street.sights[place] : 0;
         }
 
         boolean can(Street street, int turn) {
@@ -670,17 +668,18 @@ public final class KeyholeNews {
         final Stand[] levels = newStands(ROW_MOST + 1);
         final Stand at = new Stand();
 
+        /** How much more joy than from has. */
         int most(Street street, Stand from, int n) {
             if (n < 0 || n >= levels.length) {
-                return from.joy;
+                return 0;
             }
             levels[n].copy(from);
-            return mostBelow(street, levels, n);
+            return mostBelow(street, levels, n) - from.joy;
         }
 
         /** The row's figures are found one by one: the least turn that still leaves the most to be had. */
         int bestRow(Street street, Stand from, int n) {
-            int goal = most(street, from, n);
+            int goal = from.joy + most(street, from, n);
             int row = 1;
             at.copy(from);
             for (int left = n - 1; left >= 0; left--) {
@@ -704,6 +703,7 @@ public final class KeyholeNews {
             return WAITED;
         }
 
+        /** The most joy, all in all, that there can be when the turns left are taken from the stand of that level. */
         private static int mostBelow(Street street, Stand[] levels, int left) {
             if (left < 0 || left >= levels.length) {
                 return 0;
