@@ -54,14 +54,14 @@ public final class NeverThrowsTest {
                 .filter(method -> (method.getModifiers() & java.lang.reflect.Modifier.PUBLIC) != 0)
                 .sorted(Comparator.comparing(Method::getName)).toArray(Method[]::new);
         Random chance = new Random(7);
-        for (int run = 0; run < 300; run++) {
+        for (int run = 0; run < 3000; run++) {
             KeyholeNews x = new KeyholeNews();
             String text = "N9H0123H1456H2789H3999H0888H2777".substring(0, 2 + 5 * (run % 7));
             for (int i = 0; i < text.length(); i++) {
                 x.write(text.charAt(i));
             }
             x.street();
-            for (int i = 0; i < 200; i++) {
+            for (int i = 0; i < 20; i++) {
                 Method method = methods[chance.nextInt(methods.length)];
                 call(x, method, someArguments(method, chance));
             }
